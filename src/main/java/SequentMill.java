@@ -410,10 +410,10 @@ public final class SequentMill {
   private void draftRewritten(int a) {
     sequents.begin();
     for (int i = 0; i < sequents.hypothesisCount(a) && !sequents.isRefused(); i++) {
-      sequents.suppose(rewriting.changed(sequents.hypothesisOf(a, i)));
+      sequents.suppose(rewriting.changed(sequents.hypothesisOf(a, i), 0, 0));
     }
     if (!sequents.isRefused()) {
-      sequents.conclude(rewriting.changed(sequents.conclusionOf(a)));
+      sequents.conclude(rewriting.changed(sequents.conclusionOf(a), 0, 0));
     }
   }
 
@@ -530,43 +530,39 @@ public final class SequentMill {
       Arrays.fill(heads, NONE);
     }
 
-    private boolean has(int thing) {
-      return thing >= 0 && thing < count;
-    }
-
     int sign(int thing) {
-      return has(thing) ? signs[thing] : 0;
+      return thing >= 0 && thing < count ? signs[thing] : 0;
     }
 
     int left(int thing) {
-      return has(thing) ? lefts[thing] : NONE;
+      return thing >= 0 && thing < count ? lefts[thing] : NONE;
     }
 
     int right(int thing) {
-      return has(thing) ? rights[thing] : NONE;
+      return thing >= 0 && thing < count ? rights[thing] : NONE;
     }
 
     /** Of a leaf or an application its type, of an abstraction its variable's. */
     int typeOfLeaf(int thing) {
-      return has(thing) ? leafTypes[thing] : NONE;
+      return thing >= 0 && thing < count ? leafTypes[thing] : NONE;
     }
 
     int symbolsOf(int thing) {
-      return has(thing) ? symbols[thing] : 0;
+      return thing >= 0 && thing < count ? symbols[thing] : 0;
     }
 
     /** What has no parts is 1 high. */
     int heightOf(int thing) {
-      return has(thing) ? heights[thing] : 0;
+      return thing >= 0 && thing < count ? heights[thing] : 0;
     }
 
     /** The number of the thing's entry in the trace, or NONE. */
     int entryOf(int thing) {
-      return has(thing) ? entries[thing] : NONE;
+      return thing >= 0 && thing < count ? entries[thing] : NONE;
     }
 
     void setEntry(int thing, int entry) {
-      if (has(thing)) {
+      if (thing >= 0 && thing < count) {
         entries[thing] = entry;
       }
     }
@@ -655,11 +651,12 @@ public final class SequentMill {
 
     /** What was remembered of the thing at this depth in this round, or NONE. */
     int remembered(int thing, int depth) {
-      return has(thing) && stamps[thing] == round * DEPTHS + depth ? memos[thing] : NONE;
+      boolean known = thing >= 0 && thing < count && stamps[thing] == round * DEPTHS + depth;
+      return known ? memos[thing] : NONE;
     }
 
     void remember(int thing, int depth, int what) {
-      if (has(thing)) {
+      if (thing >= 0 && thing < count) {
         stamps[thing] = round * DEPTHS + depth;
         memos[thing] = what;
       }
@@ -667,7 +664,7 @@ public final class SequentMill {
 
     /** Lists the thing, once in a round. */
     void list(int thing) {
-      if (has(thing) && remembered(thing, 0) < 0) {
+      if (thing >= 0 && thing < count && remembered(thing, 0) < 0) {
         remember(thing, 0, thing);
         parts.add(thing);
       }
@@ -727,7 +724,7 @@ public final class SequentMill {
     }
 
     int functions(int from, int to) {
-      return built(FUNCTIONS, from, to);
+      return from < 0 || to < 0 ? NONE : store.make(FUNCTIONS, from, to, 0);
     }
 
     boolean isFunctions(int type) {
@@ -846,7 +843,12 @@ public final class SequentMill {
       if (f < 0 || x < 0) {
         return NONE;
       }
-      return store.make(APPLICATION, f, x, resultType(f));
+      if (store.sign(f) == ABSTRACTION) {
+        return store.make(APPLICATION, f, x, ownType(store.left(f), 0));
+      }
+      int type = store.typeOfLeaf(f);
+      return types.isFunctions(type)
+          ? store.make(APPLICATION, f, x, types.store.right(type)) : NONE;
     }
 
     int abstractionOver(int type, int body) {
@@ -882,15 +884,8 @@ public final class SequentMill {
       if (level >= MOST_TYPE_HEIGHT) {
         return NONE;
       }
-      return types.functions(store.typeOfLeaf(term), ownType(store.left(term), level + 1));
-    }
-
-    private int resultType(int f) {
-      if (store.sign(f) == ABSTRACTION) {
-        return ownType(store.left(f), 0);
-      }
-      int type = store.typeOfLeaf(f);
-      return types.isFunctions(type) ? types.store.right(type) : NONE;
+      int to = ownType(store.left(term), level + 1);
+      return to < 0 ? NONE : types.store.make(FUNCTIONS, store.typeOfLeaf(term), to, 0);
     }
 
     /** The type that a function is from, or NONE if the term is no function. */
@@ -1063,26 +1058,23 @@ public final class SequentMill {
       secondType = second;
     }
 
-    int changed(int term) {
-      return walk(term, 0, 0);
-    }
-
     /** The abstraction of the body over the variable. */
     int bound(int variable, int body) {
       if (variable < 0 || body < 0) {
         return NONE;
       }
       start(BOUND_FOR_FREE, variable, NONE);
-      return terms.abstractionOver(terms.store.typeOfLeaf(variable), walk(body, 0, 0));
+      return terms.abstractionOver(terms.store.typeOfLeaf(variable), changed(body, 0, 0));
     }
 
     /** The abstraction's body with what it is applied to, a free variable, for its variable. */
     int opened(int application) {
       start(FREE_FOR_BOUND, terms.store.right(application), NONE);
-      return walk(terms.store.left(terms.functionOf(application)), 0, 0);
+      return changed(terms.store.left(terms.functionOf(application)), 0, 0);
     }
 
-    private int walk(int term, int depth, int level) {
+    /** The term, so many abstractions and so many levels down, with what has been started. */
+    int changed(int term, int depth, int level) {
       int sign = terms.store.sign(term);
       if (sign >= 0) {
         return changedLeaf(term, sign, depth);
@@ -1097,10 +1089,10 @@ public final class SequentMill {
       int made = NONE;
       int type = changedType(terms.store.typeOfLeaf(term), 0);
       if (sign == ABSTRACTION) {
-        made = terms.abstractionOver(type, walk(terms.store.left(term), depth + 1, level + 1));
+        made = terms.abstractionOver(type, changed(terms.store.left(term), depth + 1, level + 1));
       } else {
-        int f = walk(terms.store.left(term), depth, level + 1);
-        int x = f < 0 ? NONE : walk(terms.store.right(term), depth, level + 1);
+        int f = changed(terms.store.left(term), depth, level + 1);
+        int x = f < 0 ? NONE : changed(terms.store.right(term), depth, level + 1);
         made = x < 0 ? NONE : terms.store.make(APPLICATION, f, x, type);
       }
       if (made >= 0) {
@@ -1120,8 +1112,10 @@ public final class SequentMill {
       if (leaf != free) {
         return leaf;
       }
-      int type = terms.store.typeOfLeaf(leaf);
-      return kind == BOUND_FOR_FREE ? terms.leaf(BOUND_MARK, depth, type) : instead;
+      if (kind == TERM_FOR_FREE) {
+        return instead;
+      }
+      return terms.store.make(4 * depth + BOUND_MARK, NONE, NONE, terms.store.typeOfLeaf(leaf));
     }
 
     private int changedType(int type, int level) {
@@ -1199,7 +1193,7 @@ public final class SequentMill {
       int x = terms.leaf(FREE_MARK, 0, any);
       int p = terms.leaf(FREE_MARK, 1, types.functions(any, types.truths));
       int holds = terms.application(p, x);
-      return equation(and(holds, terms.application(p, choiceOf(any, p))), holds);
+      return equation(and(holds, terms.application(p, choiceOf(any, p)), truth()), holds);
     }
 
     /** ? f. (! x. ! y. f x = f y ==> x = y) /\ (? y. ! x. not (y = f x)). */
@@ -1209,11 +1203,13 @@ public final class SequentMill {
       int x = terms.leaf(FREE_MARK, 1, things);
       int y = terms.leaf(FREE_MARK, 2, things);
       int alike = equation(terms.application(f, x), terms.application(f, y));
-      int oneToOne = equation(and(alike, equation(x, y)), alike);
+      int t = truth();
+      int oneToOne = equation(and(alike, equation(x, y), t), alike);
       int reached = equation(y, terms.application(f, x));
       int q = terms.leaf(FREE_MARK, 0, types.truths);
-      int notReached = equation(and(reached, all(q, q)), reached);
-      return some(f, and(all(x, all(y, oneToOne)), some(y, all(x, notReached))));
+      int notReached = equation(and(reached, all(q, q, t), t), reached);
+      int bothWays = and(all(x, all(y, oneToOne, t), t), some(y, all(x, notReached, t)), t);
+      return some(f, bothWays);
     }
 
     private int choiceOf(int type, int set) {
@@ -1228,17 +1224,16 @@ public final class SequentMill {
     }
 
     /** No free variable of the axioms is of f's type, so that binding f binds nothing else. */
-    private int and(int p, int q) {
+    private int and(int p, int q, int truth) {
       int connective = types.functions(types.truths, types.functions(types.truths, types.truths));
       int f = terms.leaf(FREE_MARK, 0, connective);
-      int truth = truth();
       int ofBoth = terms.application(terms.application(f, p), q);
       int ofTruths = terms.application(terms.application(f, truth), truth);
       return equation(rewriting.bound(f, ofBoth), rewriting.bound(f, ofTruths));
     }
 
-    private int all(int v, int p) {
-      return equation(rewriting.bound(v, p), rewriting.bound(v, truth()));
+    private int all(int v, int p, int truth) {
+      return equation(rewriting.bound(v, p), rewriting.bound(v, truth));
     }
 
     private int some(int v, int p) {
