@@ -24,6 +24,7 @@ public final class LimitsTest {
     new LimitsTest("term height").termHeight();
     new LimitsTest("hypotheses").hypotheses();
     new LimitsTest("symbols of sequents").sequentSymbols();
+    new LimitsTest("symbols of sequents, one left").sequentSymbolsButOne();
     new LimitsTest("symbols of terms").termHandleSymbols();
     new LimitsTest("symbols of types").typeHandleSymbols();
     new LimitsTest("different types").differentTypes();
@@ -262,6 +263,19 @@ public final class LimitsTest {
     fine("a term", x.conclusion(2));
   }
 
+  private void sequentSymbolsButOne() {
+    for (int k = 0; k < 41; k++) {
+      fine("axiom 2", x.axiom(2));
+    }
+    for (int k = 0; k < 38; k++) {
+      fine("refl", x.refl(v));
+    }
+    for (int k = 0; k < 3; k++) {
+      fine("assume", x.assume(v));
+    }
+    refused("2 symbols where 1 is left", x.assume(v));
+  }
+
   private void termHandleSymbols() {
     x.axiom(2);
     for (int k = 0; k < 41; k++) {
@@ -346,6 +360,7 @@ public final class LimitsTest {
       fine("define", x.define(id));
     }
     refused("two constants where one is left", x.defineType(s));
+    due("no constructor of a refused call", Twin.ARGUMENT, x.type(3, 0, 0));
     fine("the last constant", x.define(id));
     refused("the 201st constant", x.define(id));
     int one = x.typeOf(id);
@@ -404,5 +419,13 @@ public final class LimitsTest {
     due("numbers", 60000, x.traced());
     refused("a step of 2 numbers", x.refl(v));
     refused("a step of 3 numbers", x.trans(cheap, cheap));
+    while (x.plain.traced() > 60000 - 5) {
+      x.cut(x.plain.size() - 1);
+    }
+    for (int rest = 59999 - x.plain.traced(); rest > 0; rest -= rest == 3 ? 3 : 2) {
+      fine("a step of 2 or 3 numbers", rest == 3 ? x.trans(cheap, cheap) : x.refl(v));
+    }
+    due("numbers", 59999, x.traced());
+    refused("a step of 2 numbers where 1 is left", x.refl(v));
   }
 }
