@@ -252,7 +252,7 @@ public final class SequentMill {
     requireSequent(a);
     int variable = termAt(v);
     int term = termAt(t);
-    if (!terms.isFree(variable) || !terms.isOf(term, terms.store.typeOfLeaf(variable))) {
+    if (!terms.isFree(variable) || !terms.isOf(term, terms.store.writtenType(variable))) {
       throw new IllegalArgumentException("not a free variable and a term of its type");
     }
     int variableEntry = trace.termEntry(variable, 0);
@@ -510,7 +510,7 @@ public final class SequentMill {
     private int[] signs = new int[64];
     private int[] lefts = new int[64];
     private int[] rights = new int[64];
-    private int[] leafTypes = new int[64];
+    private int[] writtenTypes = new int[64];
     private int[] symbols = new int[64];
     private int[] heights = new int[64];
     private int[] nexts = new int[64];
@@ -543,8 +543,8 @@ public final class SequentMill {
     }
 
     /** Of a leaf or an application its type, of an abstraction its variable's. */
-    int typeOfLeaf(int thing) {
-      return thing >= 0 && thing < count ? leafTypes[thing] : NONE;
+    int writtenType(int thing) {
+      return thing >= 0 && thing < count ? writtenTypes[thing] : NONE;
     }
 
     int symbolsOf(int thing) {
@@ -588,7 +588,7 @@ public final class SequentMill {
       signs[count] = sign;
       lefts[count] = left;
       rights[count] = right;
-      leafTypes[count] = type;
+      writtenTypes[count] = type;
       symbols[count] = many;
       heights[count] = high;
       nexts[count] = heads[place];
@@ -609,7 +609,7 @@ public final class SequentMill {
       int thing = heads[place];
       for (int i = 0; i < count && thing >= 0; i++) {
         if (signs[thing] == sign && lefts[thing] == left && rights[thing] == right
-            && leafTypes[thing] == type) {
+            && writtenTypes[thing] == type) {
           return thing;
         }
         thing = nexts[thing];
@@ -622,7 +622,7 @@ public final class SequentMill {
       signs = Arrays.copyOf(signs, room);
       lefts = Arrays.copyOf(lefts, room);
       rights = Arrays.copyOf(rights, room);
-      leafTypes = Arrays.copyOf(leafTypes, room);
+      writtenTypes = Arrays.copyOf(writtenTypes, room);
       symbols = Arrays.copyOf(symbols, room);
       heights = Arrays.copyOf(heights, room);
       nexts = Arrays.copyOf(nexts, room);
@@ -638,7 +638,8 @@ public final class SequentMill {
     /** Newer things stand before older ones under each head, so the newest goes first. */
     void undo() {
       for (int thing = count - 1; thing >= settled; thing--) {
-        heads[placeOf(signs[thing], lefts[thing], rights[thing], leafTypes[thing])] = nexts[thing];
+        int place = placeOf(signs[thing], lefts[thing], rights[thing], writtenTypes[thing]);
+        heads[place] = nexts[thing];
       }
       count = settled;
     }
@@ -846,7 +847,7 @@ public final class SequentMill {
       if (store.sign(f) == ABSTRACTION) {
         return store.make(APPLICATION, f, x, ownType(store.left(f), 0));
       }
-      int type = store.typeOfLeaf(f);
+      int type = store.writtenType(f);
       return types.isFunctions(type)
           ? store.make(APPLICATION, f, x, types.store.right(type)) : NONE;
     }
@@ -865,13 +866,13 @@ public final class SequentMill {
       int inside = body;
       int level = 1;
       while (level < MOST_TYPE_HEIGHT && store.sign(inside) == ABSTRACTION) {
-        int next = store.typeOfLeaf(inside);
+        int next = store.writtenType(inside);
         level++;
         many += 1 + types.store.symbolsOf(next);
         high = Math.max(high, level + types.store.heightOf(next));
         inside = store.left(inside);
       }
-      int last = store.typeOfLeaf(inside);
+      int last = store.writtenType(inside);
       many += types.store.symbolsOf(last);
       high = Math.max(high, level + types.store.heightOf(last));
       return many <= MOST_TYPE_SYMBOLS && high <= MOST_TYPE_HEIGHT;
@@ -879,18 +880,18 @@ public final class SequentMill {
 
     int ownType(int term, int level) {
       if (store.sign(term) != ABSTRACTION) {
-        return store.typeOfLeaf(term);
+        return store.writtenType(term);
       }
       if (level >= MOST_TYPE_HEIGHT) {
         return NONE;
       }
       int to = ownType(store.left(term), level + 1);
-      return to < 0 ? NONE : types.store.make(FUNCTIONS, store.typeOfLeaf(term), to, 0);
+      return to < 0 ? NONE : types.store.make(FUNCTIONS, store.writtenType(term), to, 0);
     }
 
     /** The type that a function is from, or NONE if the term is no function. */
     int argumentType(int f) {
-      int type = store.typeOfLeaf(f);
+      int type = store.writtenType(f);
       if (store.sign(f) == ABSTRACTION) {
         return type;
       }
@@ -901,13 +902,13 @@ public final class SequentMill {
       int inside = term;
       int rest = type;
       for (int i = 0; i < MOST_TYPE_HEIGHT && store.sign(inside) == ABSTRACTION; i++) {
-        if (!types.isFunctions(rest) || types.store.left(rest) != store.typeOfLeaf(inside)) {
+        if (!types.isFunctions(rest) || types.store.left(rest) != store.writtenType(inside)) {
           return false;
         }
         rest = types.store.right(rest);
         inside = store.left(inside);
       }
-      return rest >= 0 && store.sign(inside) != ABSTRACTION && store.typeOfLeaf(inside) == rest;
+      return rest >= 0 && store.sign(inside) != ABSTRACTION && store.writtenType(inside) == rest;
     }
 
     boolean isApplicable(int f, int x) {
@@ -985,7 +986,7 @@ public final class SequentMill {
       listPartsOf(term);
       types.store.startRound();
       for (int i = 0; i < store.listedCount(); i++) {
-        types.store.list(store.typeOfLeaf(store.listed(i)));
+        types.store.list(store.writtenType(store.listed(i)));
       }
       types.store.listParts();
       return types.listedVariables();
@@ -997,10 +998,10 @@ public final class SequentMill {
       types.store.startRound();
       int inside = term;
       for (int i = 0; i < MOST_TYPE_HEIGHT && store.sign(inside) == ABSTRACTION; i++) {
-        types.store.list(store.typeOfLeaf(inside));
+        types.store.list(store.writtenType(inside));
         inside = store.left(inside);
       }
-      types.store.list(store.typeOfLeaf(inside));
+      types.store.list(store.writtenType(inside));
       types.store.listParts();
       return types.listedVariables() < all;
     }
@@ -1064,7 +1065,7 @@ public final class SequentMill {
         return NONE;
       }
       start(BOUND_FOR_FREE, variable, NONE);
-      return terms.abstractionOver(terms.store.typeOfLeaf(variable), changed(body, 0, 0));
+      return terms.abstractionOver(terms.store.writtenType(variable), changed(body, 0, 0));
     }
 
     /** The abstraction's body with what it is applied to, a free variable, for its variable. */
@@ -1087,7 +1088,7 @@ public final class SequentMill {
         return NONE;
       }
       int made = NONE;
-      int type = changedType(terms.store.typeOfLeaf(term), 0);
+      int type = changedType(terms.store.writtenType(term), 0);
       if (sign == ABSTRACTION) {
         made = terms.abstractionOver(type, changed(terms.store.left(term), depth + 1, level + 1));
       } else {
@@ -1103,7 +1104,7 @@ public final class SequentMill {
 
     private int changedLeaf(int leaf, int sign, int depth) {
       if (kind == TYPES_FOR_VARIABLES) {
-        int type = changedType(terms.store.typeOfLeaf(leaf), 0);
+        int type = changedType(terms.store.writtenType(leaf), 0);
         return terms.store.make(sign, NONE, NONE, type);
       }
       if (kind == FREE_FOR_BOUND) {
@@ -1115,7 +1116,7 @@ public final class SequentMill {
       if (kind == TERM_FOR_FREE) {
         return instead;
       }
-      return terms.store.make(4 * depth + BOUND_MARK, NONE, NONE, terms.store.typeOfLeaf(leaf));
+      return terms.store.make(4 * depth + BOUND_MARK, NONE, NONE, terms.store.writtenType(leaf));
     }
 
     private int changedType(int type, int level) {
@@ -1238,7 +1239,7 @@ public final class SequentMill {
 
     private int some(int v, int p) {
       int set = rewriting.bound(v, p);
-      return terms.application(set, choiceOf(terms.store.typeOfLeaf(v), set));
+      return terms.application(set, choiceOf(terms.store.writtenType(v), set));
     }
   }
 
@@ -1332,7 +1333,7 @@ public final class SequentMill {
         int x = termEntry(terms.right(term), level + 1);
         return addTerm(term, 4, f, x);
       }
-      int type = typeEntry(terms.typeOfLeaf(term), 0);
+      int type = typeEntry(terms.writtenType(term), 0);
       if (sign == ABSTRACTION) {
         return addTerm(term, 5, type, termEntry(terms.left(term), level + 1));
       }

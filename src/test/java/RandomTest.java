@@ -1,4 +1,5 @@
 import java.util.ArrayList;
+import java.util.HashMap;
 import java.util.List;
 import java.util.Random;
 
@@ -91,9 +92,8 @@ public final class RandomTest {
     int c = random.nextBoolean() ? 0 : upTo(x.plain.constants.size());
     List<Integer> fit = new ArrayList<>();
     for (int t = 0; t < types() && c >= 0 && c < x.plain.constants.size(); t++) {
-      Twin probe = x;
-      if (PlainMill.becomes(probe.plain.constants.get(c), probe.plain.typeHandles.get(t),
-          new java.util.HashMap<>())) {
+      PlainMill.Ty own = x.plain.constants.get(c);
+      if (PlainMill.becomes(own, x.plain.typeHandles.get(t), new HashMap<>())) {
         fit.add(t);
       }
     }
