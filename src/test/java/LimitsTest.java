@@ -15,23 +15,31 @@ public final class LimitsTest {
   }
 
   public static void main(String[] args) {
-    new LimitsTest("type symbols").typeSymbols();
-    new LimitsTest("type height").typeHeight();
-    new LimitsTest("an abstraction's type").abstractionType();
-    new LimitsTest("an abstraction's type, retyped").abstractionRetyped();
-    new LimitsTest("an equation's type").equationType();
-    new LimitsTest("term symbols").termSymbols();
-    new LimitsTest("term height").termHeight();
-    new LimitsTest("hypotheses").hypotheses();
-    new LimitsTest("symbols of sequents").sequentSymbols();
-    new LimitsTest("symbols of sequents, one left").sequentSymbolsButOne();
-    new LimitsTest("symbols of terms").termHandleSymbols();
-    new LimitsTest("symbols of types").typeHandleSymbols();
-    new LimitsTest("different types").differentTypes();
-    new LimitsTest("constants").constants();
-    new LimitsTest("constructors").constructors();
-    new LimitsTest("numbers of the trace").traceNumbers();
+    run("type symbols", LimitsTest::typeSymbols);
+    run("type height", LimitsTest::typeHeight);
+    run("an abstraction's type", LimitsTest::abstractionType);
+    run("an abstraction's type, retyped", LimitsTest::abstractionRetyped);
+    run("an equation's type", LimitsTest::equationType);
+    run("term symbols", LimitsTest::termSymbols);
+    run("term height", LimitsTest::termHeight);
+    run("hypotheses", LimitsTest::hypotheses);
+    run("symbols of sequents", LimitsTest::sequentSymbols);
+    run("symbols of sequents, one left", LimitsTest::sequentSymbolsButOne);
+    run("symbols of terms", LimitsTest::termHandleSymbols);
+    run("symbols of types", LimitsTest::typeHandleSymbols);
+    run("constants", LimitsTest::constants);
+    run("constructors", LimitsTest::constructors);
     Check.done();
+  }
+
+  private interface Test {
+    void run(LimitsTest test);
+  }
+
+  private static void run(String name, Test test) {
+    LimitsTest made = new LimitsTest(name);
+    test.run(made);
+    made.x.keptToCalls();
   }
 
   private void due(String what, int want, int got) {
@@ -312,47 +320,6 @@ public final class LimitsTest {
     fine("a term", x.free(2, t));
   }
 
-  private void differentTypes() {
-    int a = x.typeVariable(0);
-    int u = truths;
-    for (int j = 1; j <= 4; j++) {
-      int chain = x.typeVariable(j);
-      for (int k = 0; k < 17; k++) {
-        chain = fn(a, chain);
-      }
-      u = j == 1 ? chain : fn(chain, u);
-    }
-    int term = x.apply(x.free(1, fn(u, truths)), x.free(2, u));
-    int s = x.assume(term);
-    int n = 5;
-    int before = x.plain.countedTypes();
-    x.retype(s, 0, x.typeVariable(n), 0, x.plain.typeHandles.size() - 1);
-    int step = x.plain.countedTypes() - before;
-    while (x.plain.countedTypes() + step <= 8000) {
-      n++;
-      int t = x.typeVariable(n);
-      fine("retype", x.retype(s, 0, t, 0, t));
-      if (n % 10 == 0) {
-        x.cut(2);
-      }
-    }
-    int t = x.typeVariable(n + 1);
-    refused("more than 8000 types", x.retype(s, 0, t, 0, t));
-    for (n += 2; x.plain.countedTypes() < 8000; n++) {
-      fine("a new type", x.typeVariable(n));
-    }
-    refused("the 8001st type", x.typeVariable(n));
-    refused("the 8001st type", fn(truths, truths));
-    refused("the 8001st type", x.refl(v));
-    refused("new types", x.axiom(0));
-    fine("an old type", x.typeVariable(n - 1));
-    fine("an old type's term", x.free(3, u));
-    fine("an abstraction, whose own type does not count", x.abstraction(v, v));
-    refused("its type", x.typeOf(x.plain.termHandles.size() - 1));
-    fine("a step of old types", x.assume(v));
-    Check.same("calls of " + x.name, true, x.calls <= 512);
-  }
-
   private void constants() {
     int id = x.abstraction(v, v);
     int s = x.refl(id);
@@ -378,54 +345,5 @@ public final class LimitsTest {
     fine("constructor 39", x.type(39, 0, 0));
     due("constructor 40", Twin.ARGUMENT, x.type(40, 0, 0));
     fine("a constant", x.define(id));
-  }
-
-  /**
-   * A beta step over 60 functions of as many types, retyped again and again; each time its terms
-   * are all new, and a put that changes nothing brings them into the trace.
-   */
-  private void traceNumbers() {
-    int a = x.typeVariable(0);
-    int last = fn(a, x.typeVariable(1));
-    int w = x.free(1, last);
-    int chain = w;
-    for (int i = 2; i <= 61; i++) {
-      int next = fn(a, x.typeVariable(i));
-      chain = x.apply(x.free(2, fn(last, next)), chain);
-      last = next;
-    }
-    int s = x.beta(x.apply(x.abstraction(w, chain), w));
-    int cheap = x.refl(v);
-    int unused = x.free(3, truths);
-    int n = 100;
-    int named = 0;
-    while (named >= 0) {
-      int t = x.typeVariable(n);
-      int copy = x.conclusion(x.retype(s, 0, t, 0, t));
-      fine("a copy", copy);
-      named = x.put(cheap, unused, copy);
-      n++;
-    }
-    refused("more than 60000 numbers", named);
-    while (x.plain.traced() + 6 <= 60000 || x.plain.traced() + 4 == 60000) {
-      fine("a step of 4 numbers", x.put(cheap, unused, unused));
-    }
-    if (x.plain.traced() % 2 == 1) {
-      fine("a step of 3 numbers", x.trans(cheap, cheap));
-    }
-    if (x.plain.traced() < 60000) {
-      fine("a step of 2 numbers", x.refl(v));
-    }
-    due("numbers", 60000, x.traced());
-    refused("a step of 2 numbers", x.refl(v));
-    refused("a step of 3 numbers", x.trans(cheap, cheap));
-    while (x.plain.traced() > 60000 - 5) {
-      x.cut(x.plain.size() - 1);
-    }
-    for (int rest = 59999 - x.plain.traced(); rest > 0; rest -= rest == 3 ? 3 : 2) {
-      fine("a step of 2 or 3 numbers", rest == 3 ? x.trans(cheap, cheap) : x.refl(v));
-    }
-    due("numbers", 59999, x.traced());
-    refused("a step of 2 numbers where 1 is left", x.refl(v));
   }
 }

@@ -155,6 +155,8 @@ final class PlainMill {
   private final Map<Ty, Integer> typeEntries = new HashMap<>();
   private final Map<Tm, Integer> termEntries = new HashMap<>();
   private final Set<Ty> counted = new HashSet<>();
+  /** Terms that handles or sequents have had: no limit on types or terms forbids them. */
+  private final Set<Tm> known = new HashSet<>();
   private int typeSymbols = 0;
   private int termSymbols = 0;
   private int sequentSymbols = 0;
@@ -248,6 +250,18 @@ final class PlainMill {
     return counted.size();
   }
 
+  int roomForSequents() {
+    return 20000 - sequentSymbols;
+  }
+
+  int roomForTerms() {
+    return 20000 - termSymbols;
+  }
+
+  int roomForTypes() {
+    return 6000 - typeSymbols;
+  }
+
   /** Throws if the limits on types or terms forbid these; answers the types that come to count. */
   private Set<Ty> fresh(List<Ty> types, List<Tm> terms) {
     Set<Ty> all = new HashSet<>();
@@ -256,8 +270,10 @@ final class PlainMill {
       type.partsInto(all);
     }
     for (Tm term : terms) {
-      state(term.symbols() <= 4000 && term.height() <= 120);
-      term.typesInto(all, measured);
+      if (!known.contains(term)) {
+        state(term.symbols() <= 4000 && term.height() <= 120);
+        term.typesInto(all, measured);
+      }
     }
     measured.addAll(all);
     for (Ty type : measured) {
@@ -282,6 +298,7 @@ final class PlainMill {
     state(termSymbols + term.symbols() <= 20000);
     termSymbols += term.symbols();
     counted.addAll(fresh);
+    known.add(term);
     termHandles.add(term);
     return termHandles.size() - 1;
   }
@@ -410,6 +427,7 @@ final class PlainMill {
       state(sequentSymbols + symbols <= 20000 && hypotheses.size() <= 60);
       state(sequents.size() + conclusions.length <= 1000 && trace.size() <= 60000);
       counted.addAll(fresh);
+      known.addAll(all);
       sequentSymbols += symbols;
     } catch (IllegalStateException e) {
       traceBack(step.traced, step.types, step.terms);

@@ -12,6 +12,8 @@ final class Twin {
   final SequentMill mill = new SequentMill();
   final PlainMill plain = new PlainMill();
   final String name;
+  /** What the calls so far have answered. */
+  final List<Integer> answers = new ArrayList<>();
   int calls = 0;
 
   Twin(String name) {
@@ -37,7 +39,13 @@ final class Twin {
     int got = outcome(real);
     int want = outcome(due);
     Check.same(name + ", call " + calls + ": " + call, want, got);
+    answers.add(got);
     return want;
+  }
+
+  /** The document says nothing of what an object answers after so many calls. */
+  void keptToCalls() {
+    Check.same(name + ": calls, of which 512 are allowed: " + calls, true, calls <= 512);
   }
 
   int typeVariable(int n) {
