@@ -607,7 +607,7 @@ public final class SequentMill {
 
     private int find(int place, int sign, int left, int right, int type) {
       int thing = heads[place];
-      for (int i = 0; i < count && thing >= 0; i++) {
+      for (int i = 0; i < count && thing >= 0 && thing < count; i++) {
         if (signs[thing] == sign && lefts[thing] == left && rights[thing] == right
             && writtenTypes[thing] == type) {
           return thing;

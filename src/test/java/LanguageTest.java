@@ -28,6 +28,25 @@ public final class LanguageTest {
       Check.same("throw of " + thrown.group(1), true, listed);
     }
     Check.same("characters", true, text.chars().allMatch(c -> c < 128));
+    sizes(code);
     Check.done();
+  }
+
+  /** Rule 11: parameters, lines of a method, classes; a method ends where its indent comes again. */
+  private static void sizes(String code) {
+    Matcher headers = Pattern.compile("(?m)^( {2}| {4})(?:[\\w\\[\\]]+ )+(\\w+)\\(([^)]*)\\)"
+        + "[^;{]*\\{$").matcher(code);
+    int methods = 0;
+    while (headers.find()) {
+      methods++;
+      String name = headers.group(2);
+      int end = code.indexOf("\n" + headers.group(1) + "}", headers.end());
+      long lines = code.substring(headers.start(), end).lines().count();
+      Check.same(name + " is short", true, end > 0 && lines <= 60);
+      Check.same(name + " takes few", true, headers.group(3).split(",").length <= 7);
+    }
+    Check.same("methods", true, methods > 100);
+    long classes = Pattern.compile("\\bclass \\w+").matcher(code).results().count();
+    Check.same("classes", true, classes <= 12);
   }
 }

@@ -15,6 +15,8 @@ final class RuleSentences {
   private final int truths;
   private final int one;
   private final int any;
+  /** Choice of truths, which is the first term of all. */
+  private final int choice;
   private final int p;
   private final int q;
   private final int f;
@@ -28,6 +30,7 @@ final class RuleSentences {
     truths = x.type(0, 0, 0);
     one = x.type(2, truths, truths);
     any = x.typeVariable(0);
+    choice = x.constant(1, x.type(2, one, truths));
     p = x.free(0, truths);
     q = x.free(1, truths);
     f = x.free(0, one);
@@ -54,6 +57,7 @@ final class RuleSentences {
     holds("11 defineType: at most two type variables", RuleSentences::defineType);
     holds("11 defineType: in P", RuleSentences::defineTypeOfP);
     holds("11 defineType: in the rising order of their numbers", RuleSentences::risingOrder);
+    holds("11 defineType: P is a constant, the first term", RuleSentences::defineTypeOfChoice);
     holds("12 axiom: types put in", RuleSentences::axiomTypes);
   }
 
@@ -106,6 +110,13 @@ final class RuleSentences {
     due("p = q, p = q", ARGUMENT, x.trans(pq, pq));
     int other = x.free(1, any);
     due("the same number of another type", ARGUMENT, x.trans(pq, x.refl(other)));
+    int h = x.free(7, x.typeOf(equality));
+    int hpq = x.assume(x.apply(x.apply(h, p), q));
+    due("a free variable for equality, first", ARGUMENT, x.trans(hpq, qp));
+    due("a free variable for equality, second", ARGUMENT, x.trans(qp, hpq));
+    due("a free variable for equality, twice", ARGUMENT, x.trans(hpq, x.put(hpq, p, q)));
+    int fp = x.assume(x.apply(f, p));
+    due("f p has no right side", ARGUMENT, x.trans(fp, pq));
     int idp = x.refl(x.abstraction(p, p));
     int idq = x.refl(x.abstraction(q, q));
     says("names of bound variables do not count", x.trans(idp, idq),
@@ -119,6 +130,12 @@ final class RuleSentences {
     due("f of f", ARGUMENT, x.applied(ff, ff));
     due("p of p", ARGUMENT, x.applied(x.refl(p), pq));
     due("f of u", ARGUMENT, x.applied(ff, x.refl(u)));
+    int k = x.free(7, x.type(2, one, x.type(2, one, truths)));
+    int kff = x.assume(x.apply(x.apply(k, f), f));
+    due("a free variable for equality, first", ARGUMENT, x.applied(kff, pq));
+    int hpq = x.assume(x.apply(x.apply(x.free(7, x.typeOf(equality)), p), q));
+    due("a free variable for equality, second", ARGUMENT, x.applied(ff, hpq));
+    due("a free variable for equality, twice", ARGUMENT, x.applied(kff, hpq));
     int ids = x.refl(x.abstraction(p, p));
     says("an abstraction", x.applied(ids, pq),
         List.of(-1, -1, 2, -1, -2, 0, 1, -1, -2, 0, 5), eq(1, 5));
@@ -146,6 +163,10 @@ final class RuleSentences {
     says("no hypothesis", x.abstracted(p, x.refl(p)), List.of(-1, -1, 2, -2, 0, -2, 0));
     says("nothing to bind", x.abstracted(q, x.refl(p)), List.of(-1, -1, 2, -2, 1, -2, 1));
     due("no equation", ARGUMENT, x.abstracted(q, x.assume(p)));
+    int huu = x.refl(x.apply(x.apply(x.free(7, x.typeOf(equality)), p), q));
+    due("a free variable for equality", ARGUMENT,
+        x.abstracted(u, x.assume(x.apply(x.apply(x.free(7, x.typeOf(equality)), p), q))));
+    due("an equation of such", huu + 2, x.abstracted(u, huu));
   }
 
   private void abstractedHypotheses() {
@@ -191,6 +212,8 @@ final class RuleSentences {
     says("a hypothesis of both stands once", x.equal(both, x.assume(p)), eq(1, 5), List.of(1),
         eq(1, 5));
     due("an equation of functions", ARGUMENT, x.equal(x.refl(f), x.assume(p)));
+    int hpq = x.assume(x.apply(x.apply(x.free(7, x.typeOf(equality)), p), q));
+    due("a free variable for equality", ARGUMENT, x.equal(hpq, x.assume(p)));
     due("not the left side", ARGUMENT, x.equal(pq, x.assume(q)));
   }
 
@@ -317,7 +340,7 @@ final class RuleSentences {
     due("size", 10, x.size());
     due("of the same sequent again", 10, x.defineType(none));
     due("another constructor", ARGUMENT, x.type(7, truths, truths));
-    due("the last constructor", 6, x.type(6, -1, -1));
+    due("the last constructor", 7, x.type(6, -1, -1));
   }
 
   /** The type variables of x alone do not count, nor do its free variables. */
@@ -353,6 +376,53 @@ final class RuleSentences {
     due("not 999, then 0", ARGUMENT, x.constant(2, x.type(2, old, x.type(3, high, low))));
     due("FRO", x.plain.termHandles.size(),
         x.constant(3, x.type(2, x.type(3, low, high), old)));
+  }
+
+  /** From axiom 1 for the identity and truth: |- choice (\\p. p), from which a type is made. */
+  private void defineTypeOfChoice() {
+    int id = x.abstraction(p, p);
+    int idIsId = x.refl(id);
+    int truth = x.conclusion(idIsId);
+    int chosen = x.apply(choice, id);
+    int idTruth = x.apply(id, truth);
+    int idChosen = x.apply(id, chosen);
+    int idOf = x.beta(x.apply(id, p));
+    int holds = x.equal(turned(x.put(idOf, p, truth), idTruth), idIsId);
+    int axiom = x.retype(x.axiom(1), 0, truths, 0, truths);
+    int implied = x.put(x.put(axiom, g, id), p, truth);
+    int both = x.equal(turned(implied, and(idTruth, idChosen)), holds);
+    int a = x.free(20, truths);
+    int second = x.abstraction(a, id);
+    int h = x.free(77, x.type(2, truths, one));
+    int left = x.abstraction(h, x.apply(x.apply(h, idTruth), idChosen));
+    int right = x.abstraction(h, x.apply(x.apply(h, truth), truth));
+    int sameOfSecond = x.applied(both, x.refl(second));
+    int secondOf = x.beta(x.apply(second, a));
+    int leftIs = x.trans(x.put(x.beta(x.apply(left, h)), h, second),
+        selected(x.put(secondOf, a, idTruth), idChosen, idOf));
+    int rightIs = x.trans(x.put(x.beta(x.apply(right, h)), h, second),
+        selected(x.put(secondOf, a, truth), truth, idOf));
+    int there = x.trans(turned(rightIs, x.apply(right, second)),
+        turned(sameOfSecond, x.apply(left, second)));
+    int all = x.trans(x.trans(there, leftIs), x.put(idOf, p, chosen));
+    int said = x.equal(all, idIsId);
+    says("choice of the identity", said, List.of(-1, 6, -2, 0));
+    due("its type", said + 1, x.defineType(said));
+    says("TO (FRO a) = a", said + 1, List.of(-1, -1, 2, -1, 10, -1, 14, 1, 1));
+    says("P r = (FRO (TO r) = r)", said + 2,
+        List.of(-1, -1, 2, -1, 6, 1, -1, -1, 2, -1, 14, -1, 10, 1, 1));
+  }
+
+  /** From |- l = r, of truths, |- r = l. */
+  private int turned(int a, int l) {
+    int half = x.applied(x.refl(equality), a);
+    int same = x.refl(l);
+    return x.equal(x.applied(half, same), same);
+  }
+
+  /** From |- s t = id and |- id p = p the sequent |- s t y = y. */
+  private int selected(int a, int y, int idOf) {
+    return x.trans(x.applied(a, x.refl(y)), x.put(idOf, p, y));
   }
 
   private void axiomTypes() {

@@ -40,13 +40,15 @@ public final class SizesTest {
     taken("3: 199 symbols", (b, s) -> s.type(197), b -> b.x.type(2, b.truths, b.made));
     refused("3: 201 symbols", (b, s) -> s.type(199), b -> b.x.type(2, b.truths, b.made));
     refused("3: 201 symbols", (b, s) -> s.type(199), b -> b.x.type(2, b.made, b.truths));
-    Making unary = (b, s) -> {
-      b.x.defineType(b.x.refl(b.x.abstraction(b.u, b.u)));
-      return s.type(199);
-    };
-    taken("3: 200 symbols", unary, b -> b.x.type(3, b.made, -1));
-    refused("3: 201 symbols", (b, s) -> b.x.type(3, unary.make(b, s), -1),
-        b -> b.x.type(3, b.made, -1));
+    taken("3: 200 symbols", (b, s) -> unaryOf(b, s.type(197)),
+        b -> b.x.type(3, b.x.type(3, b.made, -1), -1));
+    refused("3: 201 symbols", (b, s) -> unaryOf(b, s.type(199)), b -> b.x.type(3, b.made, -1));
+  }
+
+  /** A new constructor's type of one type, with one symbol more. */
+  private static int unaryOf(Bench b, int type) {
+    b.x.defineType(b.x.refl(b.x.abstraction(b.u, b.u)));
+    return b.x.type(3, type, -1);
   }
 
   private static void typeHeight() {
@@ -65,6 +67,16 @@ public final class SizesTest {
     refused("7: of 201 symbols", wider, b -> b.x.abstraction(b.made, b.p));
     refused("7: of 201 symbols, its body is an abstraction",
         (b, s) -> b.x.abstraction(b.p, wide.make(b, s)), b -> b.x.abstraction(b.p, b.made));
+    Making exact = (b, s) -> b.x.free(3, unaryOf(b, s.type(197)));
+    taken("7: of 200 symbols", exact, b -> b.x.abstraction(b.p, b.made));
+    taken("7: of 200 symbols", exact, b -> b.x.abstraction(b.made, b.p));
+    Making inner = (b, s) -> b.x.abstraction(b.p, b.x.free(3, unaryOf(b, s.type(195))));
+    taken("7: of 200 symbols, its body is an abstraction", inner,
+        b -> b.x.abstraction(b.p, b.made));
+    taken("8: of 200 symbols", (b, s) -> b.x.abstraction(b.p, exact.make(b, s)),
+        b -> b.x.typeOf(b.made));
+    refused("7: of 202 symbols, its body is an abstraction",
+        (b, s) -> b.x.abstraction(b.p, exact.make(b, s)), b -> b.x.abstraction(b.p, b.made));
     Making high = (b, s) -> b.x.free(3, s.highType(23));
     taken("7: of height 24", high, b -> b.x.abstraction(b.p, b.made));
     taken("7: of height 24", high, b -> b.x.abstraction(b.made, b.p));
@@ -85,6 +97,9 @@ public final class SizesTest {
       Making fitTerm = (b, s) -> b.x.free(3, fit.make(b, s));
       Making nextTerm = (b, s) -> b.x.free(3, next.make(b, s));
       taken("11" + how, fitTerm, b -> b.x.refl(b.made));
+      taken("11: 98 symbols or height 22" + how,
+          (b, s) -> b.x.free(3, byHeight ? unaryOf(b, s.highType(21)) : unaryOf(b, s.type(97))),
+          b -> b.x.refl(b.made));
       refused("11" + how, nextTerm, b -> b.x.refl(b.made));
       taken("14" + how, (b, s) -> b.x.refl(b.x.free(3, lessFit.make(b, s))),
           b -> b.x.abstracted(b.p, b.made));

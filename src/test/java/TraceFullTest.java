@@ -39,6 +39,7 @@ public final class TraceFullTest {
     run(1, TraceFullTest::twoNumbersAreRefused);
     run(2, TraceFullTest::twoNumbersAreTaken);
     run(2, TraceFullTest::threeNumbersAreRefused);
+    run(2, TraceFullTest::refusedNumbersDoNotCount);
     run(2, t -> t.fine("21", t.x.define(t.id)));
     run(2, t -> t.fine("22", t.x.defineType(t.idIsId)));
     run(3, TraceFullTest::threeNumbersAreTaken);
@@ -163,6 +164,17 @@ public final class TraceFullTest {
     refused("14", x.abstracted(v, cheap));
     refused("17", x.equal(cheap, supposed));
     refused("18", x.antisym(cheap, cheap));
+  }
+
+  /** What a refused step would have written leaves the room for another one. */
+  private void refusedNumbersDoNotCount() {
+    refused("11: and an entry", x.refl(other));
+    refused("12", x.trans(cheap, cheap));
+    Check.same(x.name, 59998, x.traced());
+    fineAndCut("11", x.refl(v));
+    refused("19: and an entry", x.put(cheap, other, other));
+    fine("28", x.cut(x.plain.size() - 2));
+    fine("11: and an entry, after a cut", x.refl(other));
   }
 
   private void threeNumbersAreTaken() {

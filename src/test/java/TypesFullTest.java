@@ -19,6 +19,7 @@ public final class TypesFullTest {
   private final int setIsSet;
   private final int anyIdIsAnyId;
   private final int holds;
+  private int wideTerm = -1;
   private int unused = 5;
 
   private TypesFullTest(int left) {
@@ -53,6 +54,9 @@ public final class TypesFullTest {
     run(1, t -> t.fine("6: an application's own type", t.x.apply(t.twice, t.u)));
     run(1, t -> t.fine("8: one new type", t.x.typeOf(t.id)));
     run(0, TypesFullTest::typesOfWhatIsNoMoreCount);
+    run(1, TypesFullTest::refusedTypesDoNotCount);
+    run(1, TypesFullTest::refusedTermsTypesDoNotCount);
+    run(2, TypesFullTest::refusedSequentsTypesDoNotCount);
     Check.done();
   }
 
@@ -87,8 +91,8 @@ public final class TypesFullTest {
       }
       wide = j == 1 ? chain : x.type(2, chain, wide);
     }
-    int term = x.apply(x.free(1, x.type(2, wide, truths)), x.free(2, wide));
-    int a = x.assume(term);
+    wideTerm = x.free(2, wide);
+    int a = x.assume(x.apply(x.free(1, x.type(2, wide, truths)), wideTerm));
     int step = retyped(a);
     while (step > 0 && room() - step >= left) {
       step = retyped(a);
@@ -191,8 +195,77 @@ public final class TypesFullTest {
     refused("15", x.beta(idv));
     refused("18", x.antisym(holds, holds));
     refused("23", x.axiom(0));
-    fine("3: the 8000th type", x.type(2, truths, truths));
-    refused("3: the 8001st type", x.type(2, truths, x.plain.typeHandles.size() - 1));
+    fine("2: the 8000th type", newType());
+    refused("3: the 8001st type", x.type(2, truths, truths));
+  }
+
+  /** Types that only a call had that another limit refused: they do not count. */
+  private void refusedTypesDoNotCount() {
+    takeRoomForTypes();
+    refused("3: no room for symbols", x.type(1, 0, 0));
+    refused("8: no room for symbols", x.typeOf(id));
+    fine("6: the 8000th type", x.apply(twice, u));
+    refused("11: the 8001st type", x.refl(v));
+  }
+
+  private void refusedTermsTypesDoNotCount() {
+    takeRoomForTerms();
+    refused("6: no room for symbols", x.apply(twice, u));
+    fine("2: the 8000th type", newType());
+    refused("2: the 8001st type", newType());
+  }
+
+  private void refusedSequentsTypesDoNotCount() {
+    takeRoomForSequents();
+    refused("11: no room for symbols", x.refl(v));
+    refused("20: no room for symbols", x.retype(uIsU, 0, truths, 0, truths));
+    fine("2: the 7999th type", newType());
+    fine("2: the 8000th type", newType());
+    refused("2: the 8001st type", newType());
+  }
+
+  /** Makes the call as long as there is so much room. */
+  private void whileRoom(int need, Check.Call room, Check.Call call) {
+    boolean taken = true;
+    while (taken && room.answer() >= need) {
+      taken = call.answer() >= 0;
+    }
+  }
+
+  private void takeRoomForTypes() {
+    whileRoom(143, x.plain::roomForTypes, () -> x.typeOf(wideTerm));
+    whileRoom(3, x.plain::roomForTypes, () -> x.typeOf(set));
+    whileRoom(1, x.plain::roomForTypes, () -> x.typeOf(v));
+  }
+
+  private void takeRoomForTerms() {
+    int[] big = bigEquations();
+    whileRoom(605, x.plain::roomForTerms, () -> x.conclusion(big[5]));
+    whileRoom(125, x.plain::roomForTerms, () -> x.conclusion(big[1]));
+    whileRoom(7, x.plain::roomForTerms, () -> x.conclusion(anyIdIsAnyId));
+    whileRoom(1, x.plain::roomForTerms, () -> x.free(3, truths));
+  }
+
+  /** But for less than 5, which an equation needs. */
+  private void takeRoomForSequents() {
+    int[] big = bigEquations();
+    whileRoom(605, x.plain::roomForSequents, () -> x.put(big[5], v, v));
+    whileRoom(125, x.plain::roomForSequents, () -> x.put(big[1], v, v));
+    whileRoom(5, x.plain::roomForSequents, () -> x.refl(u));
+  }
+
+  /** |- t = t, with 20 identities of 'a in t for each step: no type in it is new. */
+  private int[] bigEquations() {
+    int t = u;
+    for (int i = 0; i < 20; i++) {
+      t = x.apply(anyId, t);
+    }
+    int[] made = new int[6];
+    made[0] = uIsU;
+    for (int i = 1; i < made.length; i++) {
+      made[i] = x.put(made[i - 1], u, t);
+    }
+    return made;
   }
 
   private void typesOfWhatIsNoMoreCount() {
