@@ -130,7 +130,7 @@ public final class SequentMill {
   }
 
   public int typeOf(int t) throws IndexOutOfBoundsException, IllegalStateException {
-    return answerType(terms.ownType(termAt(t), 0));
+    return answerType(terms.ownType(termAt(t)));
   }
 
   public int symbol(int t, int i) throws IndexOutOfBoundsException {
@@ -147,7 +147,7 @@ public final class SequentMill {
 
   public int refl(int t) throws IndexOutOfBoundsException, IllegalStateException {
     int term = termAt(t);
-    trace.step(REFL, trace.termEntry(term, 0));
+    trace.step(REFL, trace.termEntry(term));
     sequents.begin();
     sequents.conclude(logic.equation(term, term));
     return finish(false);
@@ -189,7 +189,7 @@ public final class SequentMill {
     if (!terms.isFree(variable) || !terms.isEquation(p) || isInHypothesis(variable, a)) {
       throw new IllegalArgumentException("not s = t and a free variable that is in no hypothesis");
     }
-    trace.step(ABSTRACTED, trace.termEntry(variable, 0), a);
+    trace.step(ABSTRACTED, trace.termEntry(variable), a);
     sequents.begin();
     sequents.supposeAllBut(NONE, a);
     int left = rewriting.bound(variable, terms.leftSide(p));
@@ -204,7 +204,7 @@ public final class SequentMill {
     if (!terms.isAbstractionToFree(term)) {
       throw new IllegalArgumentException("no application of an abstraction to a free variable");
     }
-    trace.step(BETA, trace.termEntry(term, 0));
+    trace.step(BETA, trace.termEntry(term));
     sequents.begin();
     sequents.conclude(logic.equation(term, rewriting.opened(term)));
     return finish(false);
@@ -216,7 +216,7 @@ public final class SequentMill {
     if (!terms.isOf(term, types.truths)) {
       throw new IllegalArgumentException("not of truths");
     }
-    trace.step(ASSUME, trace.termEntry(term, 0));
+    trace.step(ASSUME, trace.termEntry(term));
     sequents.begin();
     sequents.suppose(term);
     sequents.conclude(term);
@@ -255,8 +255,8 @@ public final class SequentMill {
     if (!terms.isFree(variable) || !terms.isOf(term, terms.store.writtenType(variable))) {
       throw new IllegalArgumentException("not a free variable and a term of its type");
     }
-    int variableEntry = trace.termEntry(variable, 0);
-    int termEntry = trace.termEntry(term, 0);
+    int variableEntry = trace.termEntry(variable);
+    int termEntry = trace.termEntry(term);
     trace.step(PUT, a, variableEntry);
     trace.write(termEntry);
     rewriting.startPut(variable, term);
@@ -284,8 +284,8 @@ public final class SequentMill {
     if (terms.hasFree(term) || terms.hasTypeVariableBesideItsType(term)) {
       throw new IllegalArgumentException("a free variable, or a type variable not in the type");
     }
-    trace.step(DEFINE, trace.termEntry(term, 0));
-    int fresh = terms.addConstant(terms.ownType(term, 0));
+    trace.step(DEFINE, trace.termEntry(term));
+    int fresh = terms.addConstant(terms.ownType(term));
     sequents.begin();
     sequents.conclude(logic.equation(fresh, term));
     return finish(true);
@@ -410,16 +410,16 @@ public final class SequentMill {
   private void draftRewritten(int a) {
     sequents.begin();
     for (int i = 0; i < sequents.hypothesisCount(a) && !sequents.isRefused(); i++) {
-      sequents.suppose(rewriting.changed(sequents.hypothesisOf(a, i), 0, 0));
+      sequents.suppose(rewriting.changed(sequents.hypothesisOf(a, i)));
     }
     if (!sequents.isRefused()) {
-      sequents.conclude(rewriting.changed(sequents.conclusionOf(a), 0, 0));
+      sequents.conclude(rewriting.changed(sequents.conclusionOf(a)));
     }
   }
 
   private void traceRetype(int a, int n, int first, int m, int second) {
-    int firstEntry = trace.typeEntry(first, 0);
-    int secondEntry = n == m ? NONE : trace.typeEntry(second, 0);
+    int firstEntry = trace.typeEntry(first);
+    int secondEntry = n == m ? NONE : trace.typeEntry(second);
     trace.step(RETYPE, a, n == m ? 1 : 2);
     trace.write(n);
     trace.write(firstEntry);
@@ -841,15 +841,16 @@ public final class SequentMill {
     }
 
     int application(int f, int x) {
-      if (f < 0 || x < 0) {
-        return NONE;
-      }
       if (store.sign(f) == ABSTRACTION) {
-        return store.make(APPLICATION, f, x, ownType(store.left(f), 0));
+        return applicationOf(ownType(store.left(f)), f, x);
       }
       int type = store.writtenType(f);
-      return types.isFunctions(type)
-          ? store.make(APPLICATION, f, x, types.store.right(type)) : NONE;
+      return types.isFunctions(type) ? applicationOf(types.store.right(type), f, x) : NONE;
+    }
+
+    /** An application whose own type is known. */
+    int applicationOf(int type, int f, int x) {
+      return f < 0 || x < 0 ? NONE : store.make(APPLICATION, f, x, type);
     }
 
     int abstractionOver(int type, int body) {
@@ -878,14 +879,18 @@ public final class SequentMill {
       return many <= MOST_TYPE_SYMBOLS && high <= MOST_TYPE_HEIGHT;
     }
 
-    int ownType(int term, int level) {
+    int ownType(int term) {
+      return ownTypeAt(term, 0);
+    }
+
+    private int ownTypeAt(int term, int level) {
       if (store.sign(term) != ABSTRACTION) {
         return store.writtenType(term);
       }
       if (level >= MOST_TYPE_HEIGHT) {
         return NONE;
       }
-      int to = ownType(store.left(term), level + 1);
+      int to = ownTypeAt(store.left(term), level + 1);
       return to < 0 ? NONE : types.store.make(FUNCTIONS, store.writtenType(term), to, 0);
     }
 
@@ -1065,20 +1070,26 @@ public final class SequentMill {
         return NONE;
       }
       start(BOUND_FOR_FREE, variable, NONE);
-      return terms.abstractionOver(terms.store.writtenType(variable), changed(body, 0, 0));
+      return terms.abstractionOver(terms.store.writtenType(variable), changedAt(body, 0, 0));
     }
 
     /** The abstraction's body with what it is applied to, a free variable, for its variable. */
     int opened(int application) {
       start(FREE_FOR_BOUND, terms.store.right(application), NONE);
-      return changed(terms.store.left(terms.functionOf(application)), 0, 0);
+      return changedAt(terms.store.left(terms.functionOf(application)), 0, 0);
     }
 
-    /** The term, so many abstractions and so many levels down, with what has been started. */
-    int changed(int term, int depth, int level) {
+    /** The term with what has been started. */
+    int changed(int term) {
+      return changedAt(term, 0, 0);
+    }
+
+    /** The part of a term that is so many abstractions and so many levels down in it. */
+    private int changedAt(int term, int depth, int level) {
       int sign = terms.store.sign(term);
+      int type = changedType(terms.store.writtenType(term), 0);
       if (sign >= 0) {
-        return changedLeaf(term, sign, depth);
+        return changedLeaf(term, sign, type, depth);
       }
       int known = terms.store.remembered(term, depth);
       if (known >= 0) {
@@ -1088,13 +1099,12 @@ public final class SequentMill {
         return NONE;
       }
       int made = NONE;
-      int type = changedType(terms.store.writtenType(term), 0);
       if (sign == ABSTRACTION) {
-        made = terms.abstractionOver(type, changed(terms.store.left(term), depth + 1, level + 1));
+        made = terms.abstractionOver(type, changedAt(terms.store.left(term), depth + 1, level + 1));
       } else {
-        int f = changed(terms.store.left(term), depth, level + 1);
-        int x = f < 0 ? NONE : changed(terms.store.right(term), depth, level + 1);
-        made = x < 0 ? NONE : terms.store.make(APPLICATION, f, x, type);
+        int f = changedAt(terms.store.left(term), depth, level + 1);
+        int x = f < 0 ? NONE : changedAt(terms.store.right(term), depth, level + 1);
+        made = terms.applicationOf(type, f, x);
       }
       if (made >= 0) {
         terms.store.remember(term, depth, made);
@@ -1102,9 +1112,8 @@ public final class SequentMill {
       return made;
     }
 
-    private int changedLeaf(int leaf, int sign, int depth) {
+    private int changedLeaf(int leaf, int sign, int type, int depth) {
       if (kind == TYPES_FOR_VARIABLES) {
-        int type = changedType(terms.store.writtenType(leaf), 0);
         return terms.store.make(sign, NONE, NONE, type);
       }
       if (kind == FREE_FOR_BOUND) {
@@ -1116,7 +1125,7 @@ public final class SequentMill {
       if (kind == TERM_FOR_FREE) {
         return instead;
       }
-      return terms.store.make(4 * depth + BOUND_MARK, NONE, NONE, terms.store.writtenType(leaf));
+      return terms.store.make(4 * depth + BOUND_MARK, NONE, NONE, type);
     }
 
     private int changedType(int type, int level) {
@@ -1137,7 +1146,10 @@ public final class SequentMill {
       }
       int a = changedType(types.store.left(type), level + 1);
       int b = takes > 1 && a >= 0 ? changedType(types.store.right(type), level + 1) : NONE;
-      int made = types.built(sign, a, b);
+      if (a < 0 || (takes > 1 && b < 0)) {
+        return NONE;
+      }
+      int made = types.store.make(sign, a, b, 0);
       if (made >= 0) {
         types.store.remember(type, 0, made);
       }
@@ -1158,13 +1170,15 @@ public final class SequentMill {
     }
 
     int equation(int left, int right) {
-      if (left < 0 || right < 0) {
-        return NONE;
-      }
-      int type = terms.ownType(left, 0);
-      int equalityType = types.functions(type, types.functions(type, types.truths));
-      int equality = terms.leaf(CONSTANT_MARK, EQUALITY, equalityType);
-      return terms.application(terms.application(equality, left), right);
+      return equationOf(terms.ownType(left), left, right);
+    }
+
+    /** An equation of two terms whose type is known. */
+    private int equationOf(int type, int left, int right) {
+      int sets = types.functions(type, types.truths);
+      int equality = terms.leaf(CONSTANT_MARK, EQUALITY, types.functions(type, sets));
+      int half = terms.applicationOf(sets, equality, left);
+      return terms.applicationOf(types.truths, half, right);
     }
 
     /** TO (FRO a) = a. */
@@ -1207,39 +1221,50 @@ public final class SequentMill {
       int t = truth();
       int oneToOne = equation(and(alike, equation(x, y), t), alike);
       int reached = equation(y, terms.application(f, x));
-      int q = terms.leaf(FREE_MARK, 0, types.truths);
-      int notReached = equation(and(reached, all(q, q, t), t), reached);
-      int bothWays = and(all(x, all(y, oneToOne, t), t), some(y, all(x, notReached, t)), t);
-      return some(f, bothWays);
+      int never = all(identity(), t);
+      int notReached = equation(and(reached, never, t), reached);
+      int noneReaches = all(rewriting.bound(x, notReached), t);
+      int missesOne = some(rewriting.bound(y, noneReaches));
+      int apart = all(rewriting.bound(x, all(rewriting.bound(y, oneToOne), t)), t);
+      return some(rewriting.bound(f, and(apart, missesOne, t)));
     }
 
     private int choiceOf(int type, int set) {
       int choiceType = types.functions(types.functions(type, types.truths), type);
-      return terms.application(terms.leaf(CONSTANT_MARK, CHOICE, choiceType), set);
+      return terms.applicationOf(type, terms.leaf(CONSTANT_MARK, CHOICE, choiceType), set);
+    }
+
+    /** \p. p, over truths. */
+    private int identity() {
+      return terms.abstractionOver(types.truths, terms.leaf(BOUND_MARK, 0, types.truths));
     }
 
     private int truth() {
-      int p = terms.leaf(BOUND_MARK, 0, types.truths);
-      int identity = terms.abstractionOver(types.truths, p);
-      return equation(identity, identity);
+      int identity = identity();
+      return equationOf(types.functions(types.truths, types.truths), identity, identity);
     }
 
-    /** No free variable of the axioms is of f's type, so that binding f binds nothing else. */
+    /** No bound variable of p and q is loose, so that they can stand under one more abstraction. */
     private int and(int p, int q, int truth) {
-      int connective = types.functions(types.truths, types.functions(types.truths, types.truths));
-      int f = terms.leaf(FREE_MARK, 0, connective);
-      int ofBoth = terms.application(terms.application(f, p), q);
-      int ofTruths = terms.application(terms.application(f, truth), truth);
-      return equation(rewriting.bound(f, ofBoth), rewriting.bound(f, ofTruths));
+      int sets = types.functions(types.truths, types.truths);
+      int connective = types.functions(types.truths, sets);
+      int f = terms.leaf(BOUND_MARK, 0, connective);
+      int ofBoth = terms.applicationOf(types.truths, terms.applicationOf(sets, f, p), q);
+      int ofTruths = terms.applicationOf(types.truths, terms.applicationOf(sets, f, truth), truth);
+      return equationOf(types.functions(connective, types.truths),
+          terms.abstractionOver(connective, ofBoth), terms.abstractionOver(connective, ofTruths));
     }
 
-    private int all(int v, int p, int truth) {
-      return equation(rewriting.bound(v, p), rewriting.bound(v, truth));
+    /** ! v. p, from \v. p. */
+    private int all(int set, int truth) {
+      int over = terms.store.writtenType(set);
+      return equationOf(types.functions(over, types.truths), set,
+          terms.abstractionOver(over, truth));
     }
 
-    private int some(int v, int p) {
-      int set = rewriting.bound(v, p);
-      return terms.application(set, choiceOf(terms.store.writtenType(v), set));
+    /** ? v. p, from \v. p. */
+    private int some(int set) {
+      return terms.applicationOf(types.truths, set, choiceOf(terms.store.writtenType(set), set));
     }
   }
 
@@ -1291,7 +1316,12 @@ public final class SequentMill {
       write(alsoNamed);
     }
 
-    int typeEntry(int type, int level) {
+    /** The number of the type's entry, which is made if there is none yet. */
+    int typeEntry(int type) {
+      return typeEntryAt(type, 0);
+    }
+
+    private int typeEntryAt(int type, int level) {
       int known = types.entryOf(type);
       if (known >= 0) {
         return known;
@@ -1302,8 +1332,8 @@ public final class SequentMill {
         full = true;
         return NONE;
       }
-      int first = left < 0 ? NONE : typeEntry(left, level + 1);
-      int second = right < 0 ? NONE : typeEntry(right, level + 1);
+      int first = left < 0 ? NONE : typeEntryAt(left, level + 1);
+      int second = right < 0 ? NONE : typeEntryAt(right, level + 1);
       int sign = types.sign(type);
       write(sign < 0 ? 0 : 1);
       write(sign < 0 ? -1 - sign : sign);
@@ -1318,7 +1348,12 @@ public final class SequentMill {
       return typeOrder.count() - 1;
     }
 
-    int termEntry(int term, int level) {
+    /** The number of the term's entry, which is made if there is none yet. */
+    int termEntry(int term) {
+      return termEntryAt(term, 0);
+    }
+
+    private int termEntryAt(int term, int level) {
       int known = terms.entryOf(term);
       if (known >= 0) {
         return known;
@@ -1329,13 +1364,13 @@ public final class SequentMill {
       }
       int sign = terms.sign(term);
       if (sign == APPLICATION) {
-        int f = termEntry(terms.left(term), level + 1);
-        int x = termEntry(terms.right(term), level + 1);
+        int f = termEntryAt(terms.left(term), level + 1);
+        int x = termEntryAt(terms.right(term), level + 1);
         return addTerm(term, 4, f, x);
       }
-      int type = typeEntry(terms.writtenType(term), 0);
+      int type = typeEntry(terms.writtenType(term));
       if (sign == ABSTRACTION) {
-        return addTerm(term, 5, type, termEntry(terms.left(term), level + 1));
+        return addTerm(term, 5, type, termEntryAt(terms.left(term), level + 1));
       }
       return addTerm(term, leafEntryKind(sign & 3), sign >> 2, type);
     }
