@@ -22,9 +22,23 @@ public final class RandomTest {
     Check.done();
   }
 
+  /** The object of a run with so many calls, or a few more. */
+  static SequentMill made(int seed, int calls) {
+    RandomTest test = new RandomTest(seed);
+    test.makeCalls(calls);
+    return test.x.mill;
+  }
+
   private void run() {
+    makeCalls(512);
+    x.compareAll();
+    x.compareSequents();
+    x.compareAll();
+  }
+
+  private void makeCalls(int calls) {
     boolean big = random.nextInt(4) == 0;
-    while (x.calls < 512) {
+    while (x.calls < calls) {
       if (x.calls < 20) {
         makeType();
       } else if (x.calls < 60) {
@@ -36,9 +50,6 @@ public final class RandomTest {
         x.compareAll();
       }
     }
-    x.compareAll();
-    x.compareSequents();
-    x.compareAll();
   }
 
   private int upTo(int n) {

@@ -1,22 +1,50 @@
-import java.util.ArrayList;
-import java.util.List;
+import java.util.Arrays;
 
 /** From the trace alone the sequents can be made again, with the same trace. */
 public final class ReplayTest {
-  private final SequentMill old;
-  private final SequentMill made = new SequentMill();
-  private final List<Integer> types = new ArrayList<>();
-  /** Each term's entry: its kind and two numbers. */
-  private final List<int[]> terms = new ArrayList<>();
-  private int at = 0;
-
-  private ReplayTest(SequentMill old) {
-    this.old = old;
-  }
+  private static final int RUNS = 60;
 
   public static void main(String[] args) {
-    new ReplayTest(someProof()).run();
+    Check.same("a proof with all rules", true, isMadeAgain("a proof", someProof()));
+    int again = 0;
+    for (int seed = 0; seed < RUNS; seed++) {
+      again += isMadeAgain("seed " + seed, RandomTest.made(1000 + seed, 200)) ? 1 : 0;
+    }
+    Check.same("runs that could be made again: " + again, true, again > RUNS * 3 / 4);
     Check.done();
+  }
+
+  /** False if there is no room: all terms that are made again have handles, with their parts. */
+  private static boolean isMadeAgain(String name, SequentMill old) {
+    int[] trace = Replay.traceOf(old);
+    Replay replay = new Replay(trace);
+    try {
+      replay.run();
+    } catch (IllegalStateException noRoom) {
+      return false;
+    }
+    SequentMill made = replay.made;
+    Check.same(name + ": the trace", Arrays.toString(trace),
+        Arrays.toString(Replay.traceOf(made)));
+    Check.same(name + ": size", old.size(), made.size());
+    for (int a = 0; a < old.size() && a < made.size(); a++) {
+      compareSequent(name + ", " + a, a, old, made);
+    }
+    return true;
+  }
+
+  private static void compareSequent(String name, int a, SequentMill old, SequentMill made) {
+    Check.same(name + ": hypotheses", old.hypotheses(a), made.hypotheses(a));
+    try {
+      Check.same(name + ": conclusion", TermsTest.prefix(old, old.conclusion(a)),
+          TermsTest.prefix(made, made.conclusion(a)));
+      for (int i = 0; i < old.hypotheses(a); i++) {
+        Check.same(name + ": hypothesis " + i, TermsTest.prefix(old, old.hypothesis(a, i)),
+            TermsTest.prefix(made, made.hypothesis(a, i)));
+      }
+    } catch (IllegalStateException noRoom) {
+      Check.same(name + ": room for handles in a short proof", false, name.startsWith("a proof"));
+    }
   }
 
   /** All rules, types of one and two variables, nested abstractions, and a cut in between. */
@@ -55,106 +83,10 @@ public final class ReplayTest {
     x.axiom(1);
     x.defineType(third);
     x.refl(x.conclusion(third));
+    x.defineType(x.refl(x.abstraction(u, u)));
+    int things = x.type(1, 0, 0);
+    x.refl(x.constant(6, x.type(2, x.type(4, 0, 0), x.type(2, things, things))));
+    x.refl(x.free(0, x.type(5, made, 0)));
     return x;
-  }
-
-  private int next() {
-    at++;
-    return old.trace(at - 1);
-  }
-
-  private void run() {
-    while (at < old.traced()) {
-      int kind = next();
-      if (kind < 2) {
-        replayType(kind);
-      } else if (kind < 10) {
-        terms.add(new int[] {kind, next(), next()});
-      } else {
-        replayStep(kind - 10);
-      }
-    }
-    Check.same("size", old.size(), made.size());
-    Check.same("traced", old.traced(), made.traced());
-    for (int i = 0; i < old.traced(); i++) {
-      Check.same("trace " + i, old.trace(i), made.trace(i));
-    }
-    for (int a = 0; a < old.size(); a++) {
-      Check.same("conclusion " + a, TermsTest.prefix(old, old.conclusion(a)),
-          TermsTest.prefix(made, made.conclusion(a)));
-      Check.same("hypotheses " + a, old.hypotheses(a), made.hypotheses(a));
-      for (int i = 0; i < old.hypotheses(a); i++) {
-        Check.same("hypothesis " + a + " " + i, TermsTest.prefix(old, old.hypothesis(a, i)),
-            TermsTest.prefix(made, made.hypothesis(a, i)));
-      }
-    }
-  }
-
-  private void replayType(int kind) {
-    int n = next();
-    if (kind == 0) {
-      types.add(made.typeVariable(n));
-      return;
-    }
-    // how many types a constructor takes is known from the proof above: 3 takes two, 4 none
-    int takes = n == 2 || n == 3 ? 2 : 0;
-    int a = takes > 0 ? types.get(next()) : 0;
-    int b = takes > 1 ? types.get(next()) : 0;
-    types.add(made.type(n, a, b));
-  }
-
-  /** A bound variable is a free one until its abstraction is made: 900 and its depth. */
-  private int term(int number, List<Integer> bound) {
-    int[] entry = terms.get(number);
-    switch (entry[0]) {
-      case 2:
-        return made.free(entry[1], types.get(entry[2]));
-      case 3:
-        return made.constant(entry[1], types.get(entry[2]));
-      case 4:
-        return made.apply(term(entry[1], bound), term(entry[2], bound));
-      case 5:
-        int v = made.free(900 + bound.size(), types.get(entry[1]));
-        List<Integer> more = new ArrayList<>(bound);
-        more.add(v);
-        return made.abstraction(v, term(entry[2], more));
-      default:
-        return bound.get(bound.size() - 1 - entry[1]);
-    }
-  }
-
-  private int named() {
-    return term(next(), List.of());
-  }
-
-  private void replayStep(int rule) {
-    switch (rule) {
-      case 0 -> made.refl(named());
-      case 1 -> made.trans(next(), next());
-      case 2 -> made.applied(next(), next());
-      case 3 -> made.abstracted(named(), next());
-      case 4 -> made.beta(named());
-      case 5 -> made.assume(named());
-      case 6 -> made.equal(next(), next());
-      case 7 -> made.antisym(next(), next());
-      case 8 -> made.put(next(), named(), named());
-      case 9 -> replayRetype();
-      case 10 -> made.define(named());
-      case 11 -> made.defineType(next());
-      default -> made.axiom(next());
-    }
-  }
-
-  private void replayRetype() {
-    int a = next();
-    int many = next();
-    int n = next();
-    int t = types.get(next());
-    if (many == 1) {
-      made.retype(a, n, t, n, t);
-    } else {
-      int m = next();
-      made.retype(a, n, t, m, types.get(next()));
-    }
   }
 }
