@@ -1,24 +1,48 @@
-import java.io.IOException;
 import java.lang.reflect.Constructor;
-import java.lang.reflect.Executable;
 import java.lang.reflect.Member;
 import java.lang.reflect.Method;
 import java.lang.reflect.Modifier;
-import java.nio.file.Files;
-import java.nio.file.Path;
 import java.util.Arrays;
 import java.util.HashSet;
 import java.util.Set;
 import java.util.TreeSet;
-import java.util.regex.Matcher;
-import java.util.regex.Pattern;
-import java.util.stream.Collectors;
 
 /** The class has the document's face, and no other member that can be seen from outside. */
 public final class FaceTest {
-  private static final Path DOCUMENT = Path.of("../shared/DOC.md");
+  /** What each call answers, how many numbers it takes, and what it says it throws. */
+  private static final String FACE = """
+      int abstracted(2) Index Argument State
+      int abstraction(2) Index Argument State
+      int antisym(2) Index State
+      int applied(2) Index Argument State
+      int apply(2) Index Argument State
+      int assume(1) Index Argument State
+      int axiom(1) Argument State
+      int beta(1) Index Argument State
+      int conclusion(1) Index State
+      int constant(2) Index Argument State
+      void cut(1) Argument
+      int define(1) Index Argument State
+      int defineType(1) Index Argument State
+      int equal(2) Index Argument State
+      int free(2) Index Argument State
+      int hypotheses(1) Index
+      int hypothesis(2) Index State
+      int put(3) Index Argument State
+      int refl(1) Index State
+      int retype(5) Index Argument State
+      boolean same(2) Index
+      int size(0)
+      int symbol(2) Index
+      int trace(1) Index
+      int traced(0)
+      int trans(2) Index Argument State
+      int type(3) Argument Index State
+      int typeOf(1) Index State
+      int typeVariable(1) Argument State
+      """;
 
-  public static void main(String[] args) throws IOException {
+  public static void main(String[] args) {
     Set<String> seen = new TreeSet<>();
     Set<String> publicNames = new HashSet<>();
     Set<String> hidden = new HashSet<>();
@@ -31,7 +55,7 @@ public final class FaceTest {
         Check.same(m.getName() + " is private", true, isPrivate(m));
       }
     }
-    Check.same("the public methods", documented(), seen);
+    Check.same("the public methods", new TreeSet<>(FACE.lines().toList()), seen);
     Check.same("how many", 29, seen.size());
     for (String name : publicNames) {
       Check.same("a private method named " + name, false, hidden.contains(name));
@@ -49,25 +73,14 @@ public final class FaceTest {
     return Modifier.isPrivate(member.getModifiers()) || member.isSynthetic();
   }
 
-  /** What the call takes, by types, and what it throws, in its order. */
-  private static String signature(Executable call) {
-    String takes = Arrays.stream(call.getParameterTypes()).map(Class::getSimpleName)
-        .collect(Collectors.joining(","));
-    String thrown = Arrays.stream(call.getExceptionTypes()).map(Class::getSimpleName)
-        .collect(Collectors.joining(","));
-    return "(" + takes + ")" + thrown;
-  }
-
-  /** The methods of the document's face, with no names for what they take. */
-  private static Set<String> documented() throws IOException {
-    Matcher lines = Pattern.compile("(?m)^ {4}public (\\w+ \\w+)\\((.*?)\\)(?: throws (.*))?;$")
-        .matcher(Files.readString(DOCUMENT));
-    Set<String> face = new TreeSet<>();
-    while (lines.find()) {
-      String takes = lines.group(2).replaceAll("(\\w+) \\w+", "$1");
-      String thrown = lines.group(3) == null ? "" : lines.group(3);
-      face.add(lines.group(1) + ("(" + takes + ")" + thrown).replace(" ", ""));
+  private static String signature(Method call) {
+    for (Class<?> taken : call.getParameterTypes()) {
+      Check.same(call.getName() + " takes", int.class, taken);
     }
-    return face;
+    StringBuilder text = new StringBuilder("(" + call.getParameterCount() + ")");
+    for (Class<?> thrown : call.getExceptionTypes()) {
+      text.append(' ').append(thrown.getSimpleName().replaceAll("Illegal|OutOf.*|Exception", ""));
+    }
+    return text.toString();
   }
 }

@@ -36,6 +36,8 @@ final class TraceSentences {
     holds("before a step stand entries that there are none of yet", TraceSentences::entries);
     holds("the same type or term has one entry", TraceSentences::oneEntry);
     holds("types and terms that no step names have none", TraceSentences::noEntry);
+    holds("first those that it takes: the highest type, to the left", TraceSentences::highType);
+    holds("then its parts: the highest term, to the left", TraceSentences::highTerm);
     holds("how many sequents there are", TraceSentences::size);
     holds("sequents from n on are no more", TraceSentences::cut);
     holds("the trace is as it was before the first of them", TraceSentences::cutTrace);
@@ -198,6 +200,39 @@ final class TraceSentences {
     x.conclusion(0);
     due("handles write nothing", 9, x.traced());
     writes("none of the terms that a sequent has", List.of(17, 0, 0), () -> x.antisym(0, 0));
+  }
+
+  /** (((a to truths) to truths) .. to truths), 24 high, as a part and as what is named. */
+  private void highType() {
+    int high = x.typeVariable(0);
+    int below = high;
+    for (int h = 2; h <= 24; h++) {
+      below = high;
+      high = x.type(2, high, truths);
+    }
+    int sequent = x.assume(x.apply(x.free(0, high), x.free(1, below)));
+    // a, truths, 23 types of functions; f, x, f x; the step
+    due("numbers", 2 + 2 + 23 * 4 + 3 * 3 + 2, x.traced());
+    due("put in", sequent + 1, x.retype(sequent, 0, truths, 1, truths));
+    x.cut(0);
+    x.retype(x.axiom(0), 5, high, 5, high);
+    due("numbers, where a step names the type", 2 + 2 + 2 + 23 * 4 + 5, x.traced());
+  }
+
+  /** f ((\q. (\q. .. p) p) p), 120 high. */
+  private void highTerm() {
+    int high = p;
+    for (int h = 2; h < 119; h += 2) {
+      high = x.apply(x.abstraction(q, high), p);
+    }
+    int top = x.apply(x.free(0, one), high);
+    due("height", 120, x.plain.termHandles.get(top).height());
+    int sequent = x.assume(top);
+    // truths and its functions; f, p and each part; the step
+    due("numbers", 2 + 4 + 3 * (2 + 2 * 59 + 1) + 2, x.traced());
+    due("put in", sequent + 1, x.put(sequent, p, q));
+    int bound = x.abstraction(p, high);
+    due("the deepest is bound at the end", 4 * 59, x.symbol(bound, 119));
   }
 
   private void size() {
