@@ -25,6 +25,7 @@ public final class LimitsTest {
     run("hypotheses", LimitsTest::hypotheses);
     run("symbols of sequents", LimitsTest::sequentSymbols);
     run("symbols of sequents, one left", LimitsTest::sequentSymbolsButOne);
+    run("symbols of sequents, refused again and again", LimitsTest::manyRefused);
     run("symbols of terms", LimitsTest::termHandleSymbols);
     run("symbols of types", LimitsTest::typeHandleSymbols);
     run("constants", LimitsTest::constants);
@@ -282,6 +283,45 @@ public final class LimitsTest {
       fine("assume", x.assume(v));
     }
     refused("2 symbols where 1 is left", x.assume(v));
+  }
+
+  /** More terms than all that an object can have are made in the refused calls, and no more. */
+  private void manyRefused() {
+    int large = largeTerm();
+    int other = x.free(999, truths);
+    int before = x.abstraction(other, large);
+    int sequent = x.assume(large);
+    while (x.plain.roomForSequents() >= 2 * 1345) {
+      fine("axiom 2", x.axiom(2));
+    }
+    for (int i = 0; i < 66; i++) {
+      int instead = x.free(100 + i, truths);
+      due("a large sequent", Twin.STATE, x.put(sequent, v, instead));
+    }
+    fine("a small one", x.refl(x.free(200, truths)));
+    due("the same is the same", 1, x.same(before, x.abstraction(other, large)));
+    x.compareAll();
+  }
+
+  /** h E1 (h E2 (.. h E8 v)), where En says k0 v (k1 v (.. y)) = y, of type variable n. */
+  private int largeTerm() {
+    int any = x.typeVariable(0);
+    int links = fn(truths, fn(any, any));
+    int y = x.free(0, any);
+    int chain = y;
+    for (int i = 0; i < 40; i++) {
+      chain = x.apply(x.apply(x.free(i, links), v), chain);
+    }
+    int equality = x.constant(0, fn(any, fn(any, truths)));
+    int first = x.assume(x.apply(x.apply(equality, chain), y));
+    int h = x.free(0, fn(truths, fn(truths, truths)));
+    int all = v;
+    for (int n = 1; n <= 8; n++) {
+      int type = x.typeVariable(n);
+      int said = x.conclusion(x.retype(first, 0, type, 0, type));
+      all = x.apply(x.apply(h, said), all);
+    }
+    return all;
   }
 
   private void termHandleSymbols() {

@@ -54,6 +54,9 @@ final class RuleSentences {
     holds("9 retype: two type variables at once", RuleSentences::retype);
     holds("9 retype: the first one again, then it counts nothing", RuleSentences::retypeOnce);
     holds("10 define: all type variables in it in its type", RuleSentences::define);
+    holds("10 define: a type variable in few of its symbols", RuleSentences::defineHidden);
+    holds("10 define: in its type, under many abstractions", RuleSentences::defineDeep);
+    holds("8 put: a term of its type, under many abstractions", RuleSentences::putDeep);
     holds("11 defineType: at most two type variables", RuleSentences::defineType);
     holds("11 defineType: in P", RuleSentences::defineTypeOfP);
     holds("11 defineType: in the rising order of their numbers", RuleSentences::risingOrder);
@@ -322,6 +325,62 @@ final class RuleSentences {
         x.define(x.constant(0, x.type(2, b, x.type(2, b, truths)))));
     due("a free variable of its own type", ARGUMENT, x.define(u));
     due("a free variable under an abstraction", ARGUMENT, x.define(x.abstraction(u, w)));
+  }
+
+  /** A closed term of truths. */
+  private int closed() {
+    return x.conclusion(x.refl(x.abstraction(p, p)));
+  }
+
+  /** K (\p. c): the type variable is in the own types of K and c alone. */
+  private void defineHidden() {
+    int truth = closed();
+    int choose = x.constant(1, x.type(2, x.type(2, any, truths), any));
+    due("c", 1, x.define(x.apply(choose, x.abstraction(u, truth))));
+    due("K", 2, x.define(x.abstraction(x.free(0, x.type(2, truths, any)), truth)));
+    int b = x.typeVariable(1);
+    int things = x.type(1, 0, 0);
+    due("of a type variable", ARGUMENT, x.define(hidden(b)));
+    due("of things", 3, x.define(hidden(things)));
+  }
+
+  private int hidden(int type) {
+    int k = x.constant(3, x.type(2, x.type(2, truths, type), truths));
+    return x.apply(k, x.abstraction(p, x.constant(2, type)));
+  }
+
+  /** The abstraction over u of u, under others over q. */
+  private int nested(int abstractions) {
+    int nest = x.abstraction(u, u);
+    for (int i = 1; i < abstractions; i++) {
+      nest = x.abstraction(q, nest);
+    }
+    return nest;
+  }
+
+  private void defineDeep() {
+    int nest = nested(21);
+    due("the innermost one's", 0, x.define(nest));
+    Check.same("its constant", true, x.constant(2, x.typeOf(nest)) >= 0);
+    int left = any;
+    for (int h = 2; h <= 21; h++) {
+      left = x.type(2, left, truths);
+    }
+    int set = x.abstraction(x.free(0, left), closed());
+    due("deep in a variable's type", 2, x.define(set));
+    Check.same("its constant", true, x.constant(3, x.typeOf(set)) >= 0);
+  }
+
+  private void putDeep() {
+    int nest = nested(22);
+    int type = x.typeOf(nest);
+    int ofNest = x.free(0, x.type(2, type, truths));
+    int v = x.free(1, type);
+    Check.same("applied to it", true, x.apply(ofNest, nest) >= 0);
+    int a = x.assume(x.apply(ofNest, v));
+    due("it is taken", a + 1, x.put(a, v, nest));
+    int shorter = x.abstraction(q, x.free(0, x.typeOf(x.abstraction(q, q))));
+    due("another is not", ARGUMENT, x.put(a, v, shorter));
   }
 
   private void defineType() {
